@@ -1,0 +1,34 @@
+/** Counts what is not as due, and tells it. */
+final class Check {
+    private int looked = 0;
+    private int wrong = 0;
+
+    void due(String what, Object got, Object want) {
+        looked++;
+        if (!got.equals(want)) {
+            wrong++;
+            System.out.println(what + ": answered " + got + ", due is " + want);
+        }
+    }
+
+    void dueThrow(String what, Class<? extends RuntimeException> want, Runnable call) {
+        due(what, outcome(call), want.getSimpleName());
+    }
+
+    static String outcome(Runnable call) {
+        try {
+            call.run();
+            return "nothing thrown";
+        } catch (RuntimeException thrown) {
+            // A subclass, as the machine throws it, is not the exception that is due.
+            return thrown.getClass().getSimpleName();
+        }
+    }
+
+    void end(String name) {
+        System.out.println(name + ": " + looked + " answers looked at, " + wrong + " not as due");
+        if (wrong > 0 || looked == 0) {
+            System.exit(1);
+        }
+    }
+}
