@@ -592,20 +592,25 @@ public final class BasketryOffice {
         }
 
         private void reckonItem(int item, int month) {
+            double relative = reckonedRelative(item, month, false);
+            relatives[month * MAX_ITEMS + item] = relative;
+            int first = slotOf(item, 0, month);
+            for (int slot = first; slot < first + OUTLETS; slot++) {
+                prices[slot] = reckonedPrice(slot, relative);
+            }
+        }
+
+        private double reckonedRelative(int item, int month, boolean exchanged) {
             int first = slotOf(item, 0, month);
             sums.clear();
             for (int slot = first; slot < first + OUTLETS; slot++) {
                 double rate = rateOf(slot);
                 double base = baseOf(slot);
                 if (isWithinBound(slot, rate, base)) {
-                    sums.add(rate, base);
+                    sums.add(exchanged ? base : rate, exchanged ? rate : base);
                 }
             }
-            double relative = sums.relativeBy(ledger.items.get(item).mean);
-            relatives[month * MAX_ITEMS + item] = relative;
-            for (int slot = first; slot < first + OUTLETS; slot++) {
-                prices[slot] = reckonedPrice(slot, relative);
-            }
+            return sums.relativeBy(ledger.items.get(item).mean);
         }
 
         private double reckonedPrice(int slot, double relative) {
@@ -644,16 +649,7 @@ public final class BasketryOffice {
         }
 
         double exchangedRelativeOf(int item, int month) {
-            int first = slotOf(item, 0, month);
-            sums.clear();
-            for (int slot = first; slot < first + OUTLETS; slot++) {
-                double rate = rateOf(slot);
-                double base = baseOf(slot);
-                if (isWithinBound(slot, rate, base)) {
-                    sums.add(base, rate);
-                }
-            }
-            return sums.relativeBy(ledger.items.get(item).mean);
+            return reckonedRelative(item, month, true);
         }
 
         private double reckonedGroupRelative(int group, int month) {

@@ -27,6 +27,7 @@ public final class AskingTest {
         promise24Doubts();
         promise25OfContract();
         promise26Owed();
+        promise26OwedByKind0();
         promise27Count();
         CHECK.end("AskingTest");
     }
@@ -96,6 +97,17 @@ public final class AskingTest {
         summer.publish();
         summer.publish();
         due("11: out of season", summer.price(0, 0, 1), 1.5);
+        BasketryOffice falling = items(CARLI, 0);
+        falling.quote(0, 0, 100, 1);
+        falling.quote(0, 1, 50, 100);
+        falling.publish();
+        due("11: one gram", falling.price(0, 0, 0), 100.0);
+        falling.quote(0, 0, 80, 1);
+        falling.link(0, 1, 7, 1);
+        falling.publish();
+        due("11: by a relative below 1.0", falling.price(0, 1, 1), 0.5 * 0.8);
+        falling.publish();
+        due("11: a link of one gram", falling.price(0, 1, 2), 7.0);
     }
 
     private static void promise12IsMatched() {
@@ -154,14 +166,16 @@ public final class AskingTest {
             (1.2 + 1.8) / (1.0 + 2.0) * ((1.0 + 2.0) / (1.2 + 1.8)),
             2.0 / (1.0 / (1.2 / 1.0) + 1.0 / (1.8 / 2.0)) * (2.0 / (1.0 / (1.0 / 1.2) + 1.0 / (2.0 / 1.8)))};
         for (int mean = CARLI; mean <= HARMONIC; mean++) {
-            BasketryOffice x = items(mean, 0);
+            BasketryOffice x = items(mean, 0, 0);
+            tell(x, 1, 100);
             publish(x, 100, 200, 100);
+            tell(x, 1, 150);
             publish(x, 120, 180, 301);
             due("14: mean " + mean, x.bounce(0, 1), want[mean]);
             due("14: the month 0, mean " + mean, x.bounce(0, 0), 0.0);
             x.publish();
             due("14: no relative, mean " + mean, x.bounce(0, 2), 0.0);
-            range("14: item", 0, item -> x.bounce(item, 1));
+            range("14: item", 1, item -> x.bounce(item, 1));
             range("14: month", 2, month -> x.bounce(0, month));
         }
     }
@@ -214,6 +228,13 @@ public final class AskingTest {
                 due(what + ", told anew", x.share(kind, group, 2), want[kind][group]);
                 due(what + ", nothing spent", x.share(kind, group, 3), 0.25);
             }
+        }
+        BasketryOffice poor = new BasketryOffice();
+        poor.spend(1, 2, 1);
+        poor.adopt();
+        poor.publish();
+        for (int kind = 0; kind < 5; kind++) {
+            due("16: one cent, kind " + kind, poor.share(kind, 2, 0), kind == 2 || kind == 4 ? 0.25 : 1.0);
         }
         range("16: kind", 4, kind -> x.share(kind, 0, 0));
         range("16: group", 3, group -> x.share(0, group, 0));
@@ -323,6 +344,10 @@ public final class AskingTest {
 
     private static void promise21Growth() {
         BasketryOffice x = items(CARLI, 0);
+        x.spend(0, 0, 1);
+        x.spend(1, 0, 8);
+        x.spend(1, 1, 11);
+        x.adopt();
         publish(x, 100);
         int[] cents = {103, 107, 107, 107, 107, 107, 107, 107, 107, 107, 107, 113, 121};
         for (int each : cents) {
@@ -362,6 +387,7 @@ public final class AskingTest {
         due("22: the other way", coreAt(113, 107, 103, 101), (0.0 + 1.07 + 1.03) / 2.0);
         due("22: ends in the middle", coreAt(103, 113, 101, 107), (0.0 + 1.03 + 1.07) / 2.0);
         due("22: least, then greatest", coreAt(101, 113, 103, 107), (0.0 + 1.03 + 1.07) / 2.0);
+        due("22: least, behind another", coreAt(103, 101, 113, 107), (0.0 + 1.03 + 1.07) / 2.0);
         due("22: two greatest", coreAt(113, 101, 113, 107), (0.0 + 1.13 + 1.07) / 2.0);
         due("22: two least", coreAt(101, 107, 101, 113), (0.0 + 1.07 + 1.01) / 2.0);
         due("22: three greatest", coreAt(120, 120, 120, 90), (0.0 + 1.2 + 1.2) / 2.0);
@@ -453,6 +479,21 @@ public final class AskingTest {
         due("26: nothing paid by a later one", x.owed(2), 0L);
         x.publish();
         due("26: nor owed without another number", x.owed(2), 0L);
+    }
+
+    private static void promise26OwedByKind0() {
+        BasketryOffice x = items(CARLI, 0);
+        x.spend(0, 0, 9);
+        x.spend(1, 1, 1);
+        x.adopt();
+        publish(x, 100);
+        x.contract(1000, 0, 0, true);
+        publish(x, 110);
+        due("26: by nine tenths of a tenth", x.ofContract(0, 0), 1090L);
+        x.fix(1, 0, 0, 200);
+        due("26: nine tenths more were due", x.owed(0), 1900L - 1090);
+        x.fix(0, 0, 0, 200);
+        due("26: nothing more was due", x.owed(0), 1000L - 1090);
     }
 
     private static void promise27Count() {

@@ -20,9 +20,15 @@ final class Check {
             call.run();
             return "nothing thrown";
         } catch (RuntimeException thrown) {
-            // A subclass, as the machine throws it, is not the exception that is due.
-            return thrown.getClass().getSimpleName();
+            return nameOf(thrown);
         }
+    }
+
+    /** What the machine or the library throws is never due, even under the name that is. */
+    static String nameOf(RuntimeException thrown) {
+        StackTraceElement[] trace = thrown.getStackTrace();
+        boolean isOwn = trace.length > 0 && trace[0].getClassName().startsWith("BasketryOffice");
+        return thrown.getClass().getSimpleName() + (isOwn ? "" : " of the machine");
     }
 
     void end(String name) {

@@ -66,7 +66,7 @@ public final class MirrorTest {
             return;
         }
         calls++;
-        String due = outcome(want);
+        String due = outcome(want).replace(" of the machine", "");
         check.due(run + ", call " + calls + ", " + name + arguments, outcome(got), due);
         answered.merge(name + (due.endsWith("Exception") ? " " + due : ""), 1, Integer::sum);
     }
@@ -75,7 +75,7 @@ public final class MirrorTest {
         try {
             return String.valueOf(call.get());
         } catch (RuntimeException thrown) {
-            return thrown.getClass().getSimpleName();
+            return Check.nameOf(thrown);
         }
     }
 

@@ -22,6 +22,8 @@ public final class TellingTest {
         promise9Fix();
         promise10Contract();
         promise10ContractMoves();
+        promise10ContractAtTheTrigger();
+        promise10ContractFromTheLeastNumber();
         promise10ContractLag();
         promise10ContractAtTheEnds();
         CHECK.end("TellingTest");
@@ -266,6 +268,13 @@ public final class TellingTest {
         x.quote(0, 0, 120, 100);
         due("8: a fifth more in one of four groups", x.publish(), 1050);
         due("8: two months", x.count(1), 2);
+        BasketryOffice kinds = oneItem();
+        kinds.spend(0, 0, 9);
+        kinds.spend(1, 1, 1);
+        kinds.adopt();
+        kinds.quote(0, 0, 100, 100);
+        kinds.publish();
+        due("8: of the kind 0", publishAt(kinds, 200), 1900);
         due("8: no quotes of now", x.count(2), 0);
         BasketryOffice full = publishedAll();
         due("8: 24 months", full.count(1), 24);
@@ -273,8 +282,10 @@ public final class TellingTest {
         due("8: 24 months still", full.count(1), 24);
         BasketryOffice rounded = followed(10000);
         due("8: rounded down", publishAt(rounded, 10004), 1000);
-        rounded = followed(10000);
-        due("8: rounded up", publishAt(rounded, 10006), 1001);
+        rounded = followed(20000);
+        due("8: rounded down, 0.45", publishAt(rounded, 20009), 1000);
+        rounded = followed(20000);
+        due("8: rounded up, 0.55", publishAt(rounded, 20011), 1001);
     }
 
     private static void promise8PublishAtTheEnds() {
@@ -382,6 +393,47 @@ public final class TellingTest {
         due("10: without", x.ofContract(1, 0), 990L);
         due("10: without, the last number", x.ofContract(1, 1), 990L);
         due("10: paid", x.ofContract(1, 3), 1001L + 1101 + 1101 + 990);
+    }
+
+    private static void promise10ContractAtTheTrigger() {
+        BasketryOffice x = followed(100000);
+        x.contract(100000, 0, 0, true);
+        x.contract(100000, 0, 100, false);
+        due("10: nearly a tenth less", publishAt(x, 90100), 901);
+        due("10: not triggered", x.ofContract(1, 0), 100000L);
+        due("10: just a tenth less", publishAt(x, 90000), 900);
+        due("10: triggered", x.ofContract(1, 0), 90000L);
+        due("10: more", publishAt(x, 100000), 1000);
+        due("10: the same is enough without a trigger", x.ofContract(0, 2), 3L);
+        due("10: more than a tenth of 900", x.ofContract(1, 1), 1000L);
+        BasketryOffice y = followed(1000);
+        publishAt(y, 2000);
+        y.contract(100000, 0, 0, true);
+        due("10: less by one", publishAt(y, 1999), 1999);
+        due("10: not triggered by less", y.ofContract(0, 1), 2000L);
+        due("10: the same", publishAt(y, 2000), 2000);
+        due("10: triggered by the same", y.ofContract(0, 2), 3L);
+        due("10: and the wage is the same", y.ofContract(0, 0), 100000L);
+    }
+
+    private static void promise10ContractFromTheLeastNumber() {
+        BasketryOffice x = followed(100);
+        for (int times = 0; times < 3; times++) {
+            x.link(0, 0, 30, 10);
+            x.publish();
+            x.quote(0, 0, 1, 10);
+            x.confirm(0, 0);
+        }
+        due("10: the least number", x.publish(), 1);
+        x.contract(100, 0, 0, true);
+        for (int times = 0; times < 2; times++) {
+            x.link(0, 0, 1, 10);
+            x.publish();
+            x.quote(0, 0, 30, 10);
+            x.confirm(0, 0);
+        }
+        due("10: 900 times 0.037 is 33.3", x.publish(), 33);
+        due("10: from the least number", x.ofContract(0, 0), 3300L);
     }
 
     private static void promise10ContractLag() {
