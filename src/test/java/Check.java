@@ -1,3 +1,5 @@
+import java.util.function.Supplier;
+
 /** Counts what is not as due, and tells it. */
 final class Check {
     private int looked = 0;
@@ -16,16 +18,23 @@ final class Check {
     }
 
     static String outcome(Runnable call) {
-        try {
+        return answer(() -> {
             call.run();
             return "nothing thrown";
+        });
+    }
+
+    /** As text, or the name of the exception. */
+    static String answer(Supplier<Object> call) {
+        try {
+            return String.valueOf(call.get());
         } catch (RuntimeException thrown) {
             return nameOf(thrown);
         }
     }
 
     /** What the machine or the library throws is never due, even under the name that is. */
-    static String nameOf(RuntimeException thrown) {
+    private static String nameOf(RuntimeException thrown) {
         StackTraceElement[] trace = thrown.getStackTrace();
         boolean isOwn = trace.length > 0 && trace[0].getClassName().startsWith("BasketryOffice");
         return thrown.getClass().getSimpleName() + (isOwn ? "" : " of the machine");

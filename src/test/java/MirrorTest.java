@@ -66,17 +66,9 @@ public final class MirrorTest {
             return;
         }
         calls++;
-        String due = outcome(want).replace(" of the machine", "");
-        check.due(run + ", call " + calls + ", " + name + arguments, outcome(got), due);
+        String due = Check.answer(want).replace(" of the machine", "");
+        check.due(run + ", call " + calls + ", " + name + arguments, Check.answer(got), due);
         answered.merge(name + (due.endsWith("Exception") ? " " + due : ""), 1, Integer::sum);
-    }
-
-    private static String outcome(Supplier<Object> call) {
-        try {
-            return String.valueOf(call.get());
-        } catch (RuntimeException thrown) {
-            return Check.nameOf(thrown);
-        }
     }
 
     // ---- what is told
